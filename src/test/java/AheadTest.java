@@ -59,6 +59,20 @@ public final class AheadTest {
     x.days(2);
     check.due("next(0), all LOST", x.next(0), -9);
     check.due("next(1), all LOST", x.next(1), -9);
+    NailsWantTheKingdom y = Check.told("tn0;tk1;ts0;tk3;c10;c20;c30;d01;l0;");
+    check.due("next(0): both on DAY 2", y.next(0), 1);
+    check.due("next(1): tomorrow", y.next(1), 1);
+    y.days(1);
+    check.due("next(0): DAY 4", y.next(0), 3);
+    check.due("next(1): DAY 4", y.next(1), 2);
+    NailsWantTheKingdom z = Check.told("tn0;tk1;ts0;c10;c20;l0;");
+    check.due("next(0): not the one of DAY 2", z.next(0), 2);
+    NailsWantTheKingdom k = Check.told("tn0;tk5;tk2;c10;c20;d04;l0;g2;");
+    check.due("next(1): DAY 6", k.next(1), 2);
+    k.guards(2);
+    check.due("next(0): both on DAY 6", k.next(0), 1);
+    k.turn(2, 4, 4);
+    check.due("next(0): DAY 5", k.next(0), 2);
     check.refused(x, "next(3)", () -> x.next(3), -2);
     check.refused(x, "next(-1)", () -> x.next(-1), -2);
   }
@@ -79,6 +93,8 @@ public final class AheadTest {
     check.due("STILL behind 2", y.next(2), 2);
     y.mends(0);
     check.due("STILL at once", y.next(2), 0);
+    NailsWantTheKingdom k = Check.told("tn0;tk6;tk9;tk3;c10;c21;c32;d03;l0;");
+    check.due("STILL behind DAYS 7, 10, 12", k.next(2), 9);
   }
 
   private static void roots() {

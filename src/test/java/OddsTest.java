@@ -58,6 +58,15 @@ public final class OddsTest {
     z.days(1);
     blamed(z, 0, 3, 1, 1);
     blamed(z, 1, 3, 0, 1);
+    // behind 0 the KITES come on DAYS 7, 14, or 14, 21, or 21, 28: within the same 10 DAYS only at last
+    NailsWantTheKingdom k = Check.told("tn0;tn0;tn0;tk6;tk6;c30;c43;");
+    blamed(k, 0, 4, 1, 3);
+    blamed(k, 1, 4, 1, 3);
+    for (int i = 0; i < 16; i++) k.days(60);
+    k.days(39);
+    // from DAY 999: 1001, 1008; 1015, 1022; 1022, 1029
+    blamed(k, 0, 4, 2, 3);
+    blamed(k, 1, 4, 1, 6);
   }
 
   private static void blameOfFive() {

@@ -149,6 +149,8 @@ public final class RowTest {
     check.due("DAY 10 and DAY 20 by DAY 20", y.lots(20, -5, 1), free);
     y.days(5);
     check.due("not DAY 20 and DAY 30 by DAY 25", y.lots(20, -5, 1), 0);
+    NailsWantTheKingdom z = Check.told("tn0;tk9;tk9;c10;c21;d04;");
+    check.due("not DAY 20 by DAY 19", z.lots(20, -5, 1), 0);
   }
 
   private static void image() {
@@ -187,11 +189,11 @@ public final class RowTest {
   }
 
   private static void count() {
-    NailsWantTheKingdom x = Check.told("tn0;tn0;ts0;tb0;c20;c30;c31;l1;l2;g0;g3;d04;");
+    NailsWantTheKingdom x = Check.told("tn0;tn0;ts0;tb0;tn0;c20;c30;c31;l1;l2;g0;g3;d04;");
     x.row(1);
     x.row(2);
     x.letter('t');
-    int[] due = {4, 4, 6, 9, 3, 1, 2, 1};
+    int[] due = {5, 4, 6, 9, 3, 2, 2, 1};
     for (int what = 0; what < due.length; what++) check.due("count(" + what + ")", x.count(what), due[what]);
     int[] others = {-1, 8, 9, 10, 17, 18, Integer.MIN_VALUE, Integer.MAX_VALUE};
     for (int what : others) check.due("count(" + what + ")", x.count(what), -9);

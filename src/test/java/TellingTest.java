@@ -48,11 +48,9 @@ public final class TellingTest {
     check.refused(x, "letter(-1) of 96", () -> x.letter(-1), -4);
     check.due("state of 96 letters", x.state(), 32);
     check.due("guarded 32 times", x.count(3), 0);
-    for (int i = 0; i < 96; i++) x.letter(i < 93 ? ";0g".charAt((96 - i + 2) % 3) : 't');
-    check.due("96 letters with a bad end", x.state(), -1094);
-    for (int i = 0; i < 95; i++) x.letter("g0;".charAt(i % 3));
-    x.letter('g');
-    check.due("96 letters, g behind g0", x.state(), -1095);
+    check.due("96 letters with a bad end", Check.tell(x, "g0;".repeat(31) + "ttt"), -1094);
+    check.due("96 letters, the last one bad", Check.tell(x, "g0;".repeat(31) + "g0g"), -1095);
+    check.due("96 letters, something lacks", Check.tell(x, "g0;".repeat(31) + "tn0"), -1096);
   }
 
   private static void statements() {
