@@ -113,6 +113,7 @@ public final class GuardsTest {
     check.due("two of three, the least", y.fewest(5), 6);
     NailsWantTheKingdom z = Check.told("tn0;tn0;tn0;tn0;tn0;tn0;tn0;tn0;tb0;", "c80;c81;c82;c83;c84;c85;c86;c87;");
     check.due("all eight", z.fewest(8), 255);
+    check.due("the only THING", Check.told("tn0;").fewest(0), 1);
     NailsWantTheKingdom k = Check.told("tn0;tk9;tk9;tk9;tk9;tk9;tk9;tk9;", "c10;c21;c32;c43;c54;c65;c76;");
     check.due("within 60", k.fewest(6), 1);
     check.due("not within 60", k.fewest(7), -9);

@@ -13,6 +13,7 @@ public final class TellingTest {
     noFaults();
     daysInText();
     faultChangesNothing();
+    lettersAreNoMore();
     check.end();
   }
 
@@ -197,5 +198,15 @@ public final class TellingTest {
     check.holds("nothing came again", Check.all(x).equals(seen));
     check.holds("no FAULT is counted", Check.refusals(x).equals(refusals));
     check.due("and all right", Check.tell(x, "l0;d05;tk9;"), 3);
+  }
+
+  /** A shorter text does not go on with what a longer one had at these places. */
+  private static void lettersAreNoMore() {
+    NailsWantTheKingdom x = Check.told("tn0;tn0;tn0;");
+    check.due("the last ; lacks", Check.tell(x, "g0;g1;tn0"), -1009);
+    check.due("the last ; lacks, where one was", Check.tell(x, "tn0;tn0"), -1007);
+    check.due("all but the first letter lacks", Check.tell(x, "t"), -1001);
+    check.due("no letters", x.state(), -1000);
+    check.due("3 THINGS", x.count(0), 3);
   }
 }
