@@ -62,8 +62,12 @@ final class Check {
     return seen;
   }
 
-  static int tell(NailsWantTheKingdom x, String text) {
+  static void letters(NailsWantTheKingdom x, String text) {
     for (int i = 0; i < text.length(); i++) x.letter(text.charAt(i));
+  }
+
+  static int tell(NailsWantTheKingdom x, String text) {
+    letters(x, text);
     return x.state();
   }
 
@@ -72,6 +76,12 @@ final class Check {
     for (String text : texts) {
       if (tell(x, text) < 1) throw new IllegalStateException("the test tells no STATE: " + text);
     }
+    return x;
+  }
+
+  /** DAYS go by until DAY is that. */
+  static NailsWantTheKingdom onDay(NailsWantTheKingdom x, int day) {
+    for (int left = day - x.count(1); left > 0; left -= 60) x.days(Math.min(60, left));
     return x;
   }
 
