@@ -575,12 +575,14 @@ public final class NailsWantTheKingdom {
             return true;
         }
 
-        /** What is LOST behind the DAY of that number, where these were LOST ahead of it. */
+        /** What is LOST behind the DAY of that number, where these were LOST ahead of it: never by no CAUSES, all of none. */
         int behindDay(int ahead, int safe, int number) {
             int then = ahead;
-            for (int thing = 0; thing < size; thing++) {
+            for (int thing = 0; thing < size && thing < MOST_THINGS; thing++) {
                 int bit = 1 << thing;
-                if (((ahead | safe) & bit) == 0 && falls(thing, ahead, number)) {
+                int gone = Integer.bitCount(causeBits[thing] & ahead);
+                boolean isOpen = ((ahead | safe) & bit) == 0;
+                if (isOpen && gone > 0 && gone >= needed(thing, Integer.bitCount(causeBits[thing]), number)) {
                     then |= bit;
                 }
             }
@@ -599,30 +601,26 @@ public final class NailsWantTheKingdom {
             return then;
         }
 
-        private boolean falls(int thing, int ahead, int number) {
-            int causes = causesOf(thing);
-            return causes != 0 && Integer.bitCount(causes & ahead) >= needed(thing, Integer.bitCount(causes), number);
-        }
-
-        private int needed(int thing, int causes, int number) {
-            switch (kindOf(thing)) {
+        /** How many of c CAUSES must be LOST for the THING on the DAY of that number. */
+        private int needed(int thing, int c, int number) {
+            if (thing < 0 || thing >= MOST_THINGS) {
+                return NEVER;
+            }
+            switch (kinds[thing]) {
                 case SHOE:
                     return 1;
                 case HORSE:
-                    return causes > 1 ? 2 : 1;
+                    return c > 1 ? 2 : 1;
                 case BATTLE:
-                    return causes;
+                    return c;
                 case KITE:
-                    return comesRound(figureOf(thing) + 1, number) ? 1 : NEVER;
+                    int every = figures[thing] + 1;
+                    return every > 0 && number % every == 0 ? 1 : NEVER;
                 case WALL:
-                    return causes / 2 + 1;
+                    return c / 2 + 1;
                 default:
                     return NEVER;
             }
-        }
-
-        private static boolean comesRound(int every, int number) {
-            return every > 0 && number % every == 0;
         }
 
         int withoutCauses() {
@@ -1109,7 +1107,7 @@ public final class NailsWantTheKingdom {
         }
 
         private static int lostBy(Realm realm, int first, int second, int n) {
-            return Integer.bitCount(Mind.lostBehind(realm, realm.lost | first | second, n));
+            return Integer.bitCount(realm.behindDays(realm.lost | first | second, realm.guarded, realm.day, n));
         }
 
         private static int price(int loses) {

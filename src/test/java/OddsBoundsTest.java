@@ -15,6 +15,7 @@ public final class OddsBoundsTest {
     keyOfSeveral();
     twinsFromNoneTo36();
     twinsTheFirst();
+    twinsOfOtherCauses();
     twoBehind0And30();
     twoByOneAndTwoAndThree();
     twoByWhicheverNumbers();
@@ -209,6 +210,25 @@ public final class OddsBoundsTest {
   private static void twins(NailsWantTheKingdom x, int howMany, int first) {
     check.due("twins(0)", x.twins(0), howMany);
     check.due("twins(1)", x.twins(1), first);
+  }
+
+  /** "the same CAUSES": as many others are not the same, nor some of them. */
+  private static void twinsOfOtherCauses() {
+    NailsWantTheKingdom x = Check.told("tn0;ts0;th0;tw0;tw0;", "c30;c41;");
+    twins(x, 0, NONE);
+    x.causes(3, 1);
+    twins(x, 0, NONE);
+    x.causes(4, 2);
+    twins(x, 0, NONE);
+    x.causes(4, 0);
+    twins(x, 0, NONE);
+    x.causes(3, 2);
+    twins(x, 1, 34);
+    x.causes(3, 2);
+    x.causes(4, 2);
+    twins(x, 1, 34);
+    x.causes(4, 3);
+    twins(x, 0, NONE);
   }
 
   /** Two KITES, and seven others of which no two have the same KIND and CAUSES. */

@@ -39,9 +39,15 @@ final class PlainKingdom {
       return kinds.size();
     }
 
+    /** What no DAY changes is not made anew. */
     World aDay() {
-      World w = copy();
-      w.day++;
+      World w = new World();
+      w.kinds = kinds;
+      w.figures = figures;
+      w.causes = causes;
+      w.lost = new TreeSet<>(lost);
+      w.guarded = guarded;
+      w.day = day + 1;
       for (int i = 0; i < size(); i++) {
         if (lost.contains(i) || guarded.contains(i) || causes.get(i).isEmpty()) continue;
         int c = causes.get(i).size();
@@ -97,7 +103,11 @@ final class PlainKingdom {
     }
 
     int when(int thing) {
-      for (int n = 0; n <= 60; n++) if (on(n).lost.contains(thing)) return n;
+      World v = this;
+      for (int n = 0; n <= 60; n++) {
+        if (v.lost.contains(thing)) return n;
+        v = v.aDay();
+      }
       return NONE;
     }
   }
